@@ -33,7 +33,7 @@ public final class ImageTest {
         x.order(10, Check.I, 30, false);
         x.order(11, Check.O, 102, false);
         x.order(12, Check.O, 105, false);
-        x.order(13, Check.O, 105, false);
+        x.order(13, Check.O, 201, false);
         x.order(14, Check.H, 50, false);
         x.order(15, Check.T, 50, true);
         x.start(10);
@@ -58,6 +58,8 @@ public final class ImageTest {
         Check.due("multiplier()", x.multiplier(), -1);
         Check.due("text(0)", x.text(0), '-');
         Check.due("text(1)", x.text(1), -2);
+        Check.due("count(4)", x.count(4), 1);
+        Check.due("count(5)", x.count(5), 28);
         Check.due("the tape goes on", Check.does(x, 9, Check.I, 30, false), 1);
         Check.due("word(30)", x.word(30), 5);
         Check.due("and on", Check.does(x, 9, Check.I, 30, false), 1);

@@ -101,6 +101,9 @@ public final class LoaderTest {
         Check.due("load() from the place on", x.load(), 1);
         Check.due("word(64)", x.word(64), (Check.A << 12) + 2);
         Check.due("loaded()", x.loaded(), 1);
+        Check.punch(x, "EYTK");
+        x.load();
+        Check.due("count(0)", x.count(0), 65);
         Check.punch(x, "EYRK");
         x.load();
         Check.due("count(0)", x.count(0), 64);

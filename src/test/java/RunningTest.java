@@ -13,6 +13,7 @@ public final class RunningTest {
         eightMarks();
         back();
         backFromAll();
+        backFromTapeAndShifts();
         notBack();
         done();
         Check.ending();
@@ -240,6 +241,45 @@ public final class RunningTest {
                 Check.due("multiplier()", x.multiplier(), 0);
                 Check.due("count(5)", x.count(5), -1);
                 Check.due("count(3)", x.count(3), 0);
+            }
+        }
+    }
+
+    private static void backFromTapeAndShifts() {
+        Check.promise(21);
+        TapeEngine x = new TapeEngine();
+        x.punch((Check.FIGS << 15) | (8 << 10) | (Check.LETS << 5) | 8, 4);
+        for (int n = 0; n < 16; n += 4) {
+            x.order(n, Check.I, 100, true);
+            x.order(n + 1, Check.A, 100, true);
+            x.order(n + 3, Check.X, 0, false);
+        }
+        x.order(16, Check.Z, 0, false);
+        x.storeLong(102, (long) Check.FIGS << 30);
+        x.storeLong(104, 8L << 30);
+        x.storeLong(106, (long) Check.LETS << 30);
+        x.order(2, Check.O, 103, false);
+        x.order(6, Check.O, 105, false);
+        x.order(10, Check.O, 107, false);
+        x.order(14, Check.O, 105, false);
+        long[] states = new long[17];
+        for (int n = 0; n < 17; n++) {
+            states[n] = Check.state(x);
+            x.run(1);
+            x.run(0);
+        }
+        Check.due("text(0)", x.text(0), '8');
+        Check.due("text(1)", x.text(1), 'I');
+        for (int n = 16; n >= 0; n--) {
+            Check.due("back()", x.back(), n);
+            Check.due("count(0)", x.count(0), n);
+            Check.due("count(2)", x.count(2), (n + 3) / 4);
+            Check.due("count(3)", x.count(3), n > 14 ? 2 : n > 6 ? 1 : 0);
+            Check.due("count(4)", x.count(4), n > 2 && n <= 10 ? 1 : 0);
+            int last = n > 14 ? 8 : n > 10 ? Check.LETS : n > 6 ? 8 : n > 2 ? Check.FIGS : -1;
+            Check.due("count(5)", x.count(5), last);
+            if (n > 0) {
+                Check.due("state", Check.state(x), states[n]);
             }
         }
     }
