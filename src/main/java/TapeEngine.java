@@ -18,6 +18,7 @@ public final class TapeEngine {
     private static final long LONG_MASK = (1L << 35) - 1;
     private static final long REST_MASK = (1L << 36) - 1;
     private static final long TOP_LIMIT = 1L << 34;
+    private static final long LEAST_LONG = 1L << 63;
 
     // The FUNCTIONS; behind each its letter.
     private static final int ADD = 28;                // A
@@ -90,7 +91,7 @@ public final class TapeEngine {
     }
 
     public long wordLong(int n) {
-        return isAddress(n) ? signedLong(machine.memory.longAt(n)) : Long.MIN_VALUE;
+        return isAddress(n) ? signedLong(machine.memory.longAt(n)) : LEAST_LONG;
     }
 
     public int order(int n, int f, int a, boolean isLong) {
@@ -445,6 +446,12 @@ public final class TapeEngine {
         private static final String LETTERS = "PQWERTYUIOJ#SZK*.F@D!HNM&LXGABCV";
         // By SYMBOL as LETTERS is; the six that write no sign stand for themselves.
         private static final String FIGURES = "0123456789'#\"+(*.$@;!%,.&)/<-?:=";
+        private static final int SETS_LETTERS = 15;   // *
+        private static final int SETS_FIGURES = 11;   // #
+        private static final int DOES_NOTHING = 16;   // .
+        private static final int WRITES_13 = 18;      // @
+        private static final int WRITES_10 = 24;      // &
+        private static final int WRITES_32 = 20;      // !
 
         private final byte[] bytes = new byte[MOST_BYTES];
         private int length = 0;
@@ -464,27 +471,26 @@ public final class TapeEngine {
                 return;
             }
             last = symbol;
-            char letter = LETTERS.charAt(symbol);
-            switch (letter) {
-                case '*':
+            switch (symbol) {
+                case SETS_LETTERS:
                     figures = false;
                     break;
-                case '#':
+                case SETS_FIGURES:
                     figures = true;
                     break;
-                case '.':
+                case DOES_NOTHING:
                     break;
-                case '@':
+                case WRITES_13:
                     write(13);
                     break;
-                case '&':
+                case WRITES_10:
                     write(10);
                     break;
-                case '!':
+                case WRITES_32:
                     write(32);
                     break;
                 default:
-                    write(figures ? FIGURES.charAt(symbol) : letter);
+                    write(figures ? FIGURES.charAt(symbol) : LETTERS.charAt(symbol));
                     break;
             }
         }
