@@ -1,3 +1,8 @@
+import java.io.IOException;
+import java.nio.charset.StandardCharsets;
+import java.nio.file.Files;
+import java.nio.file.Path;
+
 /** Counts answers that are not as due; each test ends with ending(). */
 final class Check {
     static final int P = 0, Q = 1, W = 2, E = 3, R = 4, T = 5, Y = 6, U = 7, I = 8, O = 9, J = 10,
@@ -5,20 +10,35 @@ final class Check {
         H = 21, N = 22, M = 23, LF = 24, L = 25, X = 26, G = 27, A = 28, B = 29, C = 30, V = 31;
     static final String LETTERS = "PQWERTYUIOJ#SZK*.F@D!HNM&LXGABCV";
 
-    private static int promise = 0;
+    private static final Path DOCUMENT = Path.of("..", "shared", "DOC.md");
+
+    private static String by = "";
     private static int wrong = 0;
 
     private Check() {
     }
 
+    /** Names the promise that the next answers are due by. */
     static void promise(int number) {
-        promise = number;
+        by = "promise " + number;
+    }
+
+    /** Names the sentence that the next answers are due by; it must stand in the document. */
+    static void sentence(String words) {
+        by = "\"" + words + "\"";
+        try {
+            if (!Files.readString(DOCUMENT, StandardCharsets.UTF_8).contains(words)) {
+                due("the document", 0, 1);
+            }
+        } catch (IOException e) {
+            due("reading " + DOCUMENT, 0, 1);
+        }
     }
 
     static void due(String call, long got, long want) {
         if (got != want) {
             wrong++;
-            System.out.println("promise " + promise + ": " + call + " answered " + got + ", due is " + want);
+            System.out.println(by + ": " + call + " answered " + got + ", due is " + want);
         }
     }
 
