@@ -68,13 +68,14 @@ final class Check {
         due(call + ", rest()", x.rest(), rest);
     }
 
-    /** One number of all that can be asked without a change, for comparing two states. */
+    /**
+     * One number of what can be asked without a change, for comparing two states of one object. It takes
+     * some 180 calls; what is COME TO is told by Looks alone, as an object has no more than 512.
+     */
     static long state(TapeEngine x) {
         long sum = 17;
-        for (int n = 0; n < 256; n++) {
-            sum = sum * 31 + x.word(n);
+        for (int n = 0; n < 256; n += 2) {
             sum = sum * 31 + x.wordLong(n);
-            sum = sum * 31 + x.reached(n);
         }
         for (int f = 0; f < 32; f++) {
             sum = sum * 31 + x.done(f);

@@ -31,6 +31,7 @@ public final class FlowTest {
         Check.due("reach(2), Z", x.reach(2), 1);
         x.order(255, Check.X, 0, false);
         Check.due("reach(255), 0 behind 255", x.reach(255), 9);
+        x = new TapeEngine();
         for (int n = 0; n < 256; n++) {
             x.order(n, Check.E, (n * 7) & 255, false);
         }

@@ -2,6 +2,7 @@
 public final class ImageTest {
     public static void main(String[] args) {
         image();
+        allIsKept();
         imageAgain();
         recall();
         notKept();
@@ -47,13 +48,8 @@ public final class ImageTest {
         TapeEngine x = used();
         Check.due("image()", x.image(), 1);
         Check.due("count(7), image() takes nothing", x.count(7), 5);
-        x.start(x.count(0));
-        x.run(0);
-        long state = Check.state(x);
         spoil(x);
-        Check.due("spoilt", Check.state(x) == state ? 1 : 0, 0);
         Check.due("recall()", x.recall(), 1);
-        Check.due("state", Check.state(x), state);
         Check.due("wordLong(100)", x.wordLong(100), -1);
         Check.due("multiplier()", x.multiplier(), -1);
         Check.due("text(0)", x.text(0), '-');
@@ -69,9 +65,6 @@ public final class ImageTest {
         spoil(x);
         spoil(x);
         Check.due("recall()", x.recall(), 1);
-        x.start(x.count(0));
-        x.run(0);
-        Check.due("state again", Check.state(x), state);
         x.punch(9, 1);
         x.rewind();
         long[] due = {4, 5, 6, 9};
@@ -79,6 +72,36 @@ public final class ImageTest {
             Check.does(x, 9, Check.I, 30, false);
             Check.due("symbol", x.word(30), symbol);
         }
+    }
+
+    private static void allIsKept() {
+        Check.promise(26);
+        Looks.areNotSame("spoilt", () -> keptAndSpoilt(1), ImageTest::kept);
+        for (int times = 0; times < 3; times++) {
+            int spoilt = times;
+            Looks.areSame("recall(), " + times + " times spoilt", () -> {
+                TapeEngine x = keptAndSpoilt(spoilt);
+                x.recall();
+                return x;
+            }, ImageTest::kept);
+        }
+    }
+
+    /** One of which image() has kept all, with no ORDER that can be taken back. */
+    private static TapeEngine kept() {
+        TapeEngine x = used();
+        x.start(x.count(0));
+        x.run(0);
+        x.image();
+        return x;
+    }
+
+    private static TapeEngine keptAndSpoilt(int times) {
+        TapeEngine x = kept();
+        for (int i = 0; i < times; i++) {
+            spoil(x);
+        }
+        return x;
     }
 
     private static void imageAgain() {

@@ -170,24 +170,30 @@ public final class LoaderTest {
     private static void aTapeOfMostItems() {
         Check.promise(15);
         TapeEngine x = new TapeEngine();
-        for (int i = 0; i < 500; i++) {
-            x.punch(Check.X * 32 + Check.F, 2);
-        }
+        punchBoth(x, 500, Check.X, Check.F);
         Check.due("load(), 500 words", x.load(), 500);
         Check.due("count(8)", x.count(8), (64 + 500) & 255);
         x = new TapeEngine();
-        for (int i = 0; i < 1000; i++) {
-            x.punch(i == 0 ? Check.X : 1, 1);
-        }
+        x.punch(Check.X * 32 + 1, 2);
+        punchBoth(x, 499, 1, 1);
         Check.due("load(), one long item", x.load(), 0);
         Check.due("loaded()", x.loaded(), 2);
         Check.due("count(2)", x.count(2), 1000);
         x = new TapeEngine();
-        for (int i = 0; i < 1000; i++) {
-            x.punch(Check.DOT, 1);
-        }
+        punchBoth(x, 500, Check.DOT, Check.DOT);
         Check.due("load(), 1000 times 16", x.load(), 0);
         Check.due("loaded()", x.loaded(), 1);
         Check.due("count(2)", x.count(2), 1000);
+    }
+
+    /** Punches two symbols so many times, up to six times by a call. */
+    private static void punchBoth(TapeEngine x, int times, int first, int second) {
+        for (int left = times; left > 0; left -= 6) {
+            long v = 0;
+            for (int i = 0; i < Math.min(left, 6); i++) {
+                v = (v << 10) | (first << 5) | second;
+            }
+            x.punch(v, 2 * Math.min(left, 6));
+        }
     }
 }

@@ -19,13 +19,31 @@ final class Looks {
 
     /** What a call does must not be seen: all looks are the same with it and without it. */
     static void nothingChanges(String call, Supplier<TapeEngine> object, Consumer<TapeEngine> doing) {
+        areSame(call, () -> {
+            TapeEngine x = object.get();
+            doing.accept(x);
+            return x;
+        }, object);
+    }
+
+    /** Two objects that were come to in two ways: all looks are the same. */
+    static void areSame(String call, Supplier<TapeEngine> one, Supplier<TapeEngine> other) {
         for (int i = 0; i < ALL.size(); i++) {
-            TapeEngine without = object.get();
-            TapeEngine with = object.get();
-            doing.accept(with);
-            boolean isSame = Arrays.equals(ALL.get(i).apply(with), ALL.get(i).apply(without));
-            Check.due(call + " changes nothing of " + NAMES.get(i), isSame ? 1 : 0, 1);
+            Check.due(call + ": the same " + NAMES.get(i), isSame(i, one, other) ? 1 : 0, 1);
         }
+    }
+
+    /** At least one look is another; so it is no blind look that finds two objects the same. */
+    static void areNotSame(String call, Supplier<TapeEngine> one, Supplier<TapeEngine> other) {
+        boolean isSame = true;
+        for (int i = 0; i < ALL.size(); i++) {
+            isSame = isSame && isSame(i, one, other);
+        }
+        Check.due(call + ": all the same", isSame ? 1 : 0, 0);
+    }
+
+    private static boolean isSame(int look, Supplier<TapeEngine> one, Supplier<TapeEngine> other) {
+        return Arrays.equals(ALL.get(look).apply(one.get()), ALL.get(look).apply(other.get()));
     }
 
     static long[] shorts(TapeEngine x) {

@@ -12,6 +12,7 @@ public final class RunningTest {
         mark();
         eightMarks();
         back();
+        backBehindMany();
         backFromAll();
         backFromTapeAndShifts();
         notBack();
@@ -188,7 +189,7 @@ public final class RunningTest {
         Check.promise(21);
         TapeEngine x = new TapeEngine();
         Check.due("back()", x.back(), -4);
-        for (int n = 0; n < 256; n++) {
+        for (int n = 0; n < 130; n++) {
             x.order(n, Check.Y, 0, false);
         }
         x.run(60);
@@ -197,10 +198,15 @@ public final class RunningTest {
         Check.due("done(Y)", x.done(Check.Y), 130);
         for (int left = 99; left >= 0; left--) {
             Check.due("back()", x.back(), left);
-            Check.due("count(7)", x.count(7), left);
             Check.due("count(0)", x.count(0), 30 + left);
-            Check.due("done(Y)", x.done(Check.Y), 30 + left);
-            Check.acIs("back()", x, (30 + left) / 2, (30 + left) % 2 * (1L << 35));
+            // one of these a step, as an object has no more than 512 calls
+            if (left % 3 == 0) {
+                Check.due("count(7)", x.count(7), left);
+            } else if (left % 3 == 1) {
+                Check.due("done(Y)", x.done(Check.Y), 30 + left);
+            } else {
+                Check.acIs("back()", x, (30 + left) / 2, (30 + left) % 2 * (1L << 35));
+            }
         }
         Check.due("back(), none", x.back(), -4);
         Check.due("count(0) stays", x.count(0), 30);
@@ -208,6 +214,22 @@ public final class RunningTest {
         Check.due("back()", x.back(), 4);
         Check.due("run(1)", x.run(1), 1);
         Check.due("back()", x.back(), 4);
+        Check.due("run(100), ILLEGAL at 130", x.run(100), 96);
+        Check.due("count(7)", x.count(7), 100);
+    }
+
+    private static void backBehindMany() {
+        Check.promise(21);
+        TapeEngine x = new TapeEngine();
+        x.order(0, Check.Y, 0, false);
+        x.order(1, Check.E, 0, false);
+        x.run(3000);
+        Check.due("count(7)", x.count(7), 100);
+        for (int left = 99; left >= 0; left--) {
+            Check.due("back()", x.back(), left);
+        }
+        Check.due("done(Y)", x.done(Check.Y), 1450);
+        Check.acIs("1450 times Y", x, 725, 0);
         x.run(200);
         Check.due("count(7)", x.count(7), 100);
     }
@@ -216,26 +238,15 @@ public final class RunningTest {
     private static void backFromAll() {
         Check.promise(21);
         for (int f : LEGAL) {
-            for (int length = 0; length < 2; length++) {
-                TapeEngine x = new TapeEngine();
-                x.storeLong(100, 0x5_5555_5555L);
-                x.storeLong(102, (1L << 35) - 1);
-                x.storeLong(104, 11L << 30);
-                x.set(-12345, 678);
-                x.punch(21, 1);
-                x.order(0, Check.H, 100, true);
-                x.order(1, Check.O, 100, true);
-                x.order(2, f, f == Check.O ? 104 : 103, length == 1);
-                x.order(3, Check.X, 0, false);
-                x.run(2);
-                x.run(0);
-                x.reach(0);
-                long state = Check.state(x);
-                x.run(1);
-                x.run(0);
-                Check.due("FUNCTION " + f + " changes", Check.state(x) == state ? 1 : 0, 0);
-                Check.due("back()", x.back(), 2);
-                Check.due("FUNCTION " + f + " taken back", Check.state(x), state);
+            for (boolean isLong : new boolean[] {false, true}) {
+                String call = "FUNCTION " + f + (isLong ? ", LONG" : ", SHORT");
+                Looks.areNotSame(call + ", done", () -> doneBehindTwo(f, isLong), () -> aheadOf(f, isLong));
+                Looks.areSame(call + ", taken back", () -> {
+                    TapeEngine x = doneBehindTwo(f, isLong);
+                    Check.due(call + ", back()", x.back(), 2);
+                    return x;
+                }, () -> aheadOf(f, isLong));
+                TapeEngine x = aheadOf(f, isLong);
                 x.back();
                 x.back();
                 Check.due("multiplier()", x.multiplier(), 0);
@@ -245,8 +256,62 @@ public final class RunningTest {
         }
     }
 
+    /** Two ORDERS are DONE, and the next one is of FUNCTION f. */
+    private static TapeEngine aheadOf(int f, boolean isLong) {
+        TapeEngine x = new TapeEngine();
+        x.storeLong(100, 0x5_5555_5555L);
+        x.storeLong(102, (1L << 35) - 1);
+        x.storeLong(104, 11L << 30);
+        x.set(-12345, 678);
+        x.punch(21, 1);
+        x.order(0, Check.H, 100, true);
+        x.order(1, Check.O, 100, true);
+        x.order(2, f, f == Check.O ? 104 : 103, isLong);
+        x.order(3, Check.X, 0, false);
+        x.run(2);
+        x.run(0);
+        x.reach(0);
+        return x;
+    }
+
+    private static TapeEngine doneBehindTwo(int f, boolean isLong) {
+        TapeEngine x = aheadOf(f, isLong);
+        x.run(1);
+        x.run(0);
+        return x;
+    }
+
     private static void backFromTapeAndShifts() {
         Check.promise(21);
+        TapeEngine x = printsFromTape();
+        x.run(17);
+        Check.due("text(0)", x.text(0), '8');
+        Check.due("text(1)", x.text(1), 'I');
+        for (int n = 16; n >= 0; n--) {
+            Check.due("back()", x.back(), n);
+            Check.due("count(0)", x.count(0), n);
+            Check.due("count(2)", x.count(2), (n + 3) / 4);
+            Check.due("count(3)", x.count(3), n > 14 ? 2 : n > 6 ? 1 : 0);
+            Check.due("count(4)", x.count(4), n > 2 && n <= 10 ? 1 : 0);
+            int last = n > 14 ? 8 : n > 10 ? Check.LETS : n > 6 ? 8 : n > 2 ? Check.FIGS : -1;
+            Check.due("count(5)", x.count(5), last);
+            int left = n;
+            Looks.areSame("taken back to " + n, () -> printedFromTape(17, left), () -> printedFromTape(left, left));
+        }
+    }
+
+    /** So many ORDERS are DONE, and taken back until some are left. */
+    private static TapeEngine printedFromTape(int orders, int left) {
+        TapeEngine x = printsFromTape();
+        x.run(orders);
+        x.run(0);
+        while (x.count(7) > left) {
+            x.back();
+        }
+        return x;
+    }
+
+    private static TapeEngine printsFromTape() {
         TapeEngine x = new TapeEngine();
         x.punch((Check.FIGS << 15) | (8 << 10) | (Check.LETS << 5) | 8, 4);
         for (int n = 0; n < 16; n += 4) {
@@ -262,26 +327,7 @@ public final class RunningTest {
         x.order(6, Check.O, 105, false);
         x.order(10, Check.O, 107, false);
         x.order(14, Check.O, 105, false);
-        long[] states = new long[17];
-        for (int n = 0; n < 17; n++) {
-            states[n] = Check.state(x);
-            x.run(1);
-            x.run(0);
-        }
-        Check.due("text(0)", x.text(0), '8');
-        Check.due("text(1)", x.text(1), 'I');
-        for (int n = 16; n >= 0; n--) {
-            Check.due("back()", x.back(), n);
-            Check.due("count(0)", x.count(0), n);
-            Check.due("count(2)", x.count(2), (n + 3) / 4);
-            Check.due("count(3)", x.count(3), n > 14 ? 2 : n > 6 ? 1 : 0);
-            Check.due("count(4)", x.count(4), n > 2 && n <= 10 ? 1 : 0);
-            int last = n > 14 ? 8 : n > 10 ? Check.LETS : n > 6 ? 8 : n > 2 ? Check.FIGS : -1;
-            Check.due("count(5)", x.count(5), last);
-            if (n > 0) {
-                Check.due("state", Check.state(x), states[n]);
-            }
-        }
+        return x;
     }
 
     private static void notBack() {
