@@ -14,8 +14,9 @@ import java.util.regex.Pattern;
 
 /**
  * Tests the tests of sentences: mutants.txt tells changes of the class that break a sentence each,
- * and the test that names the sentence must fail by it. Run by .ci/mutants, with the directory of
- * the compiled tests and one for what is made.
+ * and the test that names the sentence must fail by it. And no test may ask an object what the
+ * document leaves free: all must pass with a class that answers wrongly from call 513 on. Run by
+ * .ci/mutants, with the directory of the compiled tests and one for what is made.
  */
 public final class Mutants {
     private static final Path PROGRAM = Path.of("src/main/java/TapeEngine.java");
@@ -23,6 +24,9 @@ public final class Mutants {
     private static final Path TESTS = Path.of("src/test/java");
     private static final Pattern SENTENCE = Pattern.compile("Check\\.sentence\\(((?:[\\s+]*\"(?:[^\"\\\\]|\\\\.)*\")+)\\)");
     private static final Pattern TEXT = Pattern.compile("\"((?:[^\"\\\\]|\\\\.)*)\"");
+
+    private static final Pattern PUBLIC_CALL = Pattern.compile("(?m)^    public (int|long) \\w+\\(.*\\) \\{$");
+    private static final String WEARS_OUT = " if (++calls > 512) { return 77; }";
 
     private record Mutant(String sentence, String from, String to) {
     }
@@ -42,7 +46,9 @@ public final class Mutants {
             untested.removeIf(s -> ("\"" + s + "\"").startsWith("\"" + m.sentence));
             faults.add(workers.submit(() -> faultOf(m, program, tests, place, names)));
         }
-        int wrong = untested.size();
+        List<String> overusing = testsThatOveruse(program, tests, made.resolve("worn"));
+        int wrong = untested.size() + overusing.size();
+        overusing.forEach(n -> System.out.println("uses an object for more than 512 calls: " + n));
         untested.forEach(s -> System.out.println("no mutant breaks: " + s));
         for (Future<String> fault : faults) {
             wrong += fault.get().isEmpty() ? 0 : 1;
@@ -92,6 +98,24 @@ public final class Mutants {
             }
         }
         return all;
+    }
+
+    private static List<String> testsThatOveruse(String program, Path tests, Path place) throws Exception {
+        String worn = PUBLIC_CALL.matcher(program).replaceAll("$0" + WEARS_OUT)
+            .replace("    public TapeEngine() {", "    private int calls = 0;\n\n    public TapeEngine() {");
+        Files.createDirectories(place);
+        Path source = Files.writeString(place.resolve("TapeEngine.java"), worn);
+        String errors = run(List.of("javac", "-d", place.toString(), source.toString()));
+        List<String> overusing = new ArrayList<>();
+        try (var files = Files.list(TESTS)) {
+            for (String name : files.map(f -> f.getFileName().toString().replace(".java", "")).sorted().toList()) {
+                String path = place + ":" + tests;
+                if (name.endsWith("Test") && !run(List.of("java", "-cp", path, name)).equals("all answers are as due\n")) {
+                    overusing.add(name + errors);
+                }
+            }
+        }
+        return overusing;
     }
 
     /** What is wrong with the test of the mutant's sentence; empty if it fails as it should. */

@@ -5,28 +5,31 @@ import java.util.Arrays;
 import java.util.List;
 import java.util.TreeSet;
 
-/** Long runs of calls, told alike to TapeEngine and to a slow model of whole numbers and whole copies. */
+/** Runs of 512 calls, told alike to TapeEngine and to a slow model of whole numbers and whole copies. */
 public final class ModelTest {
-    private static final int OBJECTS = 400;
+    private static final int OBJECTS = 3000;
     private static final int CALLS = 512;
-    private static final int ASKED_BETWEEN = 8;
+    private static final int OPENINGS = 6;
+    private static final int LOOKS = 3;
+    private static final int[] CALLS_OF_LOOK = {140, 270, 220};
+    private static final String LEGAL = "ASHVNTUCRLEGIOFXYZ";
+    private static final int[] NO_ADDRESSES = {-1, 256};
 
     private long seed;
-    private TapeEngine x;
-    private Model m;
-    private String told;
+    private int made = 0;
+    private final TapeEngine x = new TapeEngine();
+    private final Model m = new Model();
+    private final String told;
 
     public static void main(String[] args) {
         for (int object = 0; object < OBJECTS; object++) {
-            new ModelTest(object).calls();
+            new ModelTest(object).calls(object % OPENINGS, object / OPENINGS % LOOKS);
         }
         Check.ending();
     }
 
     private ModelTest(int object) {
         seed = object * 7919L + 12345;
-        x = new TapeEngine();
-        m = new Model();
         told = "object " + object;
     }
 
@@ -43,113 +46,271 @@ public final class ModelTest {
         return below(4) == 0 ? bits & bits >> 9 : bits;
     }
 
+    /** One of the values from least to most; sometimes the first or last of them, or the next outside. */
+    private long near(long least, long most, long usual) {
+        int kind = below(40);
+        return kind == 0 ? least - 1 : kind == 1 ? most + 1 : kind == 2 ? least : kind == 3 ? most : usual;
+    }
+
     private int address() {
         int kind = below(40);
-        return kind == 0 ? -1 : kind == 1 ? 256 : kind < 30 ? below(24) : below(256);
+        return kind < 2 ? NO_ADDRESSES[kind] : kind < 30 ? below(24) : below(256);
     }
 
     private int function() {
-        String usual = "ASHVNTUCRLEGIOFXYZ";
-        return below(8) == 0 ? below(34) - 1 : Check.LETTERS.indexOf(usual.charAt(below(18)));
+        return below(8) == 0 ? below(34) - 1 : Check.LETTERS.indexOf(LEGAL.charAt(below(18)));
     }
 
-    private void calls() {
-        for (int i = 0; i < 60; i++) {
-            oneOf(0);
-        }
-        for (int call = 60; call < CALLS; call++) {
-            oneOf(below(100));
-            if (call % ASKED_BETWEEN == 0) {
-                askAll();
+    private void calls(int opening, int look) {
+        open(opening);
+        while (made < CALLS - CALLS_OF_LOOK[look]) {
+            int kind = below(150);
+            if (kind < 50) {
+                change(kind);
+            } else if (kind < 100) {
+                work(kind);
+            } else {
+                ask(kind);
             }
         }
-        askAll();
-    }
-
-    private void askAll() {
-        for (int n = -1; n <= 256; n++) {
-            same("word(" + n + ")", x.word(n), m.word(n));
-            same("wordLong(" + n + ")", x.wordLong(n), m.wordLong(n));
-            same("reached(" + n + ")", x.reached(n), m.reached(n));
+        look(look);
+        if (made > CALLS) {
+            same("calls", made, CALLS);
         }
-        for (int f = -1; f <= 32; f++) {
-            same("done(" + f + ")", x.done(f), m.done(f));
-        }
-        for (int i = -1; i <= m.s.text.size(); i++) {
-            same("text(" + i + ")", x.text(i), m.text(i));
-        }
-        for (int what = -1; what <= 9; what++) {
-            same("count(" + what + ")", x.count(what), m.count(what));
-        }
-        same("top()", x.top(), m.top());
-        same("rest()", x.rest(), m.rest());
-        same("multiplier()", x.multiplier(), m.s.mult);
-        same("loaded()", x.loaded(), m.loaded);
-        same("why()", x.why(), m.why);
-        same("alters()", x.alters(), m.alters());
     }
 
     private void same(String call, long got, long want) {
-        Check.due(told + ": " + call, got, want);
+        made++;
+        Check.due(told + ", call " + made + ", " + call, got, want);
     }
 
-    private void oneOf(int kind) {
-        int n = address();
-        if (kind < 12) {
-            int f = function();
-            int a = below(30) == 0 ? 1024 : below(3) == 0 ? below(1024) : below(24);
-            boolean isLong = below(2) == 0;
-            same("order(" + n + "," + f + "," + a + ")", x.order(n, f, a, isLong), m.order(n, f, a, isLong));
-        } else if (kind < 16) {
-            int v = below(20) == 0 ? 131072 : (int) bits(17);
-            same("store(" + n + "," + v + ")", x.store(n, v), m.store(n, v));
-        } else if (kind < 22) {
-            long v = below(20) == 0 ? 1L << 35 : bits(35);
-            same("storeLong(" + n + "," + v + ")", x.storeLong(n, v), m.storeLong(n, v));
-        } else if (kind < 26) {
-            long top = bits(35) - (1L << 34) - (below(40) == 0 ? 1L << 30 : 0);
-            long rest = bits(36) + (below(40) == 0 ? 1L << 35 : 0);
-            same("set(" + top + "," + rest + ")", x.set(top, rest), m.set(top, rest));
-        } else if (kind < 36) {
-            long v = below(2) == 0 ? bits(60) : items();
-            int many = below(30) == 0 ? 13 : 1 + below(12);
-            same("punch(" + v + "," + many + ")", x.punch(v, many), m.punch(v, many));
-        } else if (kind < 40) {
-            same("rewind()", x.rewind(), m.rewind());
-        } else if (kind < 42) {
-            same("tear()", x.tear(), m.tear());
-        } else if (kind < 46) {
+    private void open(int opening) {
+        switch (opening) {
+            case 0 -> orders(60);
+            case 1 -> printer();
+            case 2 -> loader();
+            case 3 -> jumps();
+            case 4 -> marks();
+            default -> fullTape();
+        }
+    }
+
+    private void orders(int number) {
+        for (int i = 0; i < number; i++) {
+            change(0);
+        }
+    }
+
+    /** A loop of O's over all SYMBOLS, in any order, and F's. */
+    private void printer() {
+        for (int i = 0; i < 32; i++) {
+            order(100 + i, below(32), below(1024), false);
+        }
+        for (int n = 0; n < 40; n++) {
+            order(n, below(20) == 0 ? Check.F : Check.O, 100 + below(32), below(2) == 0);
+        }
+        order(40, Check.E, 0, false);
+        run(41 * below(24) + below(41));
+        order(below(40), function(), below(24), false);
+    }
+
+    /** A tape of items, of any addresses, and some SYMBOLS that no item has. */
+    private void loader() {
+        for (int i = 30 + below(40); i > 0; i--) {
+            boolean isOther = below(40) == 0;
+            int number = isOther ? 12 : 10;
+            punch(isOther ? bits(60) : item() << 25 | item(), number);
+        }
+        for (int i = 0; i < 6; i++) {
+            store(41 + below(15), bits(17));
+        }
+        for (int i = 0; i < 6; i++) {
             same("load()", x.load(), m.load());
-        } else if (kind < 52) {
+            askNumbers();
+        }
+    }
+
+    /** E's, G's and X's over all addresses, so that much is COME TO. */
+    private void jumps() {
+        for (int i = 0; i < 120; i++) {
+            int n = below(6) == 0 ? 255 - below(3) : below(256);
+            int f = below(12) == 0 ? function() : below(2) == 0 ? Check.E : Check.G;
+            order(n, f, below(8) == 0 ? 255 - below(3) : below(1024), below(2) == 0);
+        }
+        int from = below(256);
+        same("reach(" + from + ")", x.reach(from), m.reach(from));
+    }
+
+    /** A loop of many ORDERS with MARKS in it. */
+    private void marks() {
+        for (int n = 0; n < 30; n++) {
+            order(n, function(), below(24), below(2) == 0);
+        }
+        order(30, Check.E, below(30), false);
+        order(31, Check.G, below(30), false);
+        for (int i = 0; i < 10; i++) {
+            mark(address(), below(8) > 0);
+        }
+    }
+
+    private void fullTape() {
+        order(0, Check.I, 100, false);
+        order(1, Check.E, 0, false);
+        for (int i = 0; i < 84; i++) {
+            punch(bits(60), below(5) == 0 ? 1 + below(12) : 12);
+        }
+        run(2 * below(1010));
+    }
+
+    private void order(long n, long f, long a, boolean isLong) {
+        String call = "order(" + n + ", " + f + ", " + a + ", " + isLong + ")";
+        same(call, x.order((int) n, (int) f, (int) a, isLong), m.order((int) n, (int) f, (int) a, isLong));
+    }
+
+    private void store(long n, long v) {
+        same("store(" + n + ", " + v + ")", x.store((int) n, (int) v), m.store((int) n, (int) v));
+    }
+
+    private void punch(long v, long n) {
+        same("punch(" + v + ", " + n + ")", x.punch(v, (int) n), m.punch(v, (int) n));
+    }
+
+    private void run(long most) {
+        same("run(" + most + ")", x.run((int) most), m.run((int) most));
+    }
+
+    private void mark(int n, boolean on) {
+        same("mark(" + n + ", " + on + ")", x.mark(n, on), m.mark(n, on));
+    }
+
+    /** One of the calls behind which none can be taken back; kind is below 50. */
+    private void change(int kind) {
+        int n = address();
+        if (kind < 14) {
+            order(n, function(), near(0, 1023, below(3) == 0 ? below(1024) : below(24)), below(2) == 0);
+        } else if (kind < 18) {
+            store(n, near(0, 131071, bits(17)));
+        } else if (kind < 24) {
+            long v = near(0, (1L << 35) - 1, bits(35));
+            same("storeLong(" + n + ", " + v + ")", x.storeLong(n, v), m.storeLong(n, v));
+        } else if (kind < 28) {
+            long top = near(-(1L << 34), (1L << 34) - 1, bits(35) - (1L << 34));
+            long rest = near(0, (1L << 36) - 1, bits(36));
+            same("set(" + top + ", " + rest + ")", x.set(top, rest), m.set(top, rest));
+        } else if (kind < 37) {
+            boolean isItems = below(2) == 0;
+            punch(isItems ? item() << 25 | item() : bits(64), isItems ? 10 : near(1, 12, 1 + below(12)));
+        } else if (kind < 39) {
+            same("rewind()", x.rewind(), m.rewind());
+        } else if (kind < 41) {
+            same("tear()", x.tear(), m.tear());
+        } else if (kind < 43) {
+            same("load()", x.load(), m.load());
+        } else if (kind < 48) {
             same("start(" + n + ")", x.start(n), m.start(n));
-        } else if (kind < 66) {
-            int most = below(20) == 0 ? 3001 : below(8) == 0 ? below(3000) : below(20);
-            same("run(" + most + ")", x.run(most), m.run(most));
-        } else if (kind < 72) {
-            boolean on = below(3) > 0;
-            same("mark(" + n + "," + on + ")", x.mark(n, on), m.mark(n, on));
-        } else if (kind < 86) {
-            same("back()", x.back(), m.back());
-        } else if (kind < 94) {
-            same("reach(" + n + ")", x.reach(n), m.reach(n));
-        } else if (kind < 97) {
-            same("image()", x.image(), m.image());
         } else {
             same("recall()", x.recall(), m.recall());
         }
     }
 
-    /** Twelve symbols of items that the loader takes well. */
-    private long items() {
-        String[] items = {"AQWD", "TEFF", "GKXF", "TRK.", "OQIF", "UQFP", "I.ZF", "HTYD", "EWWK", "VPV.", "..X@"};
-        long v = 0;
-        for (int i = 0; i < 3; i++) {
-            String item = items[below(items.length)];
-            for (int j = 0; j < 4; j++) {
-                v = 32 * v + Check.LETTERS.indexOf(item.charAt(j));
+    /** One of the other calls that change something; kind is 50 to 99. */
+    private void work(int kind) {
+        int n = address();
+        if (kind < 68) {
+            run(near(0, 3000, below(8) == 0 ? below(3000) : below(20)));
+        } else if (kind < 74) {
+            mark(n, below(3) > 0);
+        } else if (kind < 88) {
+            same("back()", x.back(), m.back());
+        } else if (kind < 97) {
+            same("reach(" + n + ")", x.reach(n), m.reach(n));
+        } else {
+            same("image()", x.image(), m.image());
+        }
+    }
+
+    /** One of the calls that change nothing; kind is 100 to 149. */
+    private void ask(int kind) {
+        int n = address();
+        if (kind < 106) {
+            same("word(" + n + ")", x.word(n), m.word(n));
+        } else if (kind < 116) {
+            same("wordLong(" + n + ")", x.wordLong(n), m.wordLong(n));
+        } else if (kind < 120) {
+            same("reached(" + n + ")", x.reached(n), m.reached(n));
+        } else if (kind < 124) {
+            int f = (int) near(0, 31, below(32));
+            same("done(" + f + ")", x.done(f), m.done(f));
+        } else if (kind < 128) {
+            int i = (int) near(0, m.s.text.size() - 1, below(m.s.text.size() + 1));
+            same("text(" + i + ")", x.text(i), m.text(i));
+        } else if (kind < 140) {
+            int what = (int) near(0, 8, below(9));
+            same("count(" + what + ")", x.count(what), m.count(what));
+        } else if (kind < 144) {
+            same("top()", x.top(), m.top());
+            same("rest()", x.rest(), m.rest());
+        } else if (kind < 146) {
+            same("why()", x.why(), m.why);
+        } else if (kind < 148) {
+            same("loaded()", x.loaded(), m.loaded);
+        } else {
+            same("alters()", x.alters(), m.alters());
+        }
+    }
+
+    private void askNumbers() {
+        for (int what = 0; what <= 8; what++) {
+            same("count(" + what + ")", x.count(what), m.count(what));
+        }
+        same("loaded()", x.loaded(), m.loaded);
+    }
+
+    /** As much of an object as its last calls allow. */
+    private void look(int look) {
+        if (look == 0) {
+            for (int n = 0; n < 256; n += 2) {
+                same("wordLong(" + n + ")", x.wordLong(n), m.wordLong(n));
+            }
+        } else if (look == 1) {
+            for (int n = 0; n < 256; n++) {
+                same("reached(" + n + ")", x.reached(n), m.reached(n));
+            }
+        } else {
+            for (int f = 0; f < 32; f++) {
+                same("done(" + f + ")", x.done(f), m.done(f));
+            }
+            int size = m.s.text.size();
+            for (int i = Math.max(0, size - 160); i <= size; i++) {
+                same("text(" + i + ")", x.text(i), m.text(i));
             }
         }
+        askNumbers();
+        same("multiplier()", x.multiplier(), m.s.mult);
+    }
+
+    /** Five symbols of items that the loader mostly takes well. */
+    private long item() {
+        String[] items = {"AQWD.", "TEFF.", "GKAPF", "TRWPK", "OQIF.", "UQFP@", "IQPZF", "HTYYD", "EWWWK", "VPVQV"};
+        int kind = below(30);
+        String item = kind < 10 ? items[kind]
+            : (kind < 14 ? "T" : "" + Check.LETTERS.charAt(below(32))) + number()
+            + (kind < 14 ? 'K' : Check.LETTERS.charAt(17 + below(15)));
+        long v = 0;
+        for (int i = 0; i < 5; i++) {
+            v = 32 * v + Check.LETTERS.indexOf(item.charAt(i));
+        }
         return v;
+    }
+
+    /** Three figures, often an address near the highest one. */
+    private String number() {
+        int number = below(3) == 0 ? 250 + below(6) : below(3) == 0 ? 512 + 250 + below(6) : below(1000);
+        StringBuilder figures = new StringBuilder();
+        for (int part = 100; part > 0; part /= 10) {
+            figures.append(Check.LETTERS.charAt(number / part % 10));
+        }
+        return figures.toString();
     }
 
     /** What an ORDER can change, and image() keeps. */
